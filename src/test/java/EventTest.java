@@ -1,0 +1,67 @@
+/** Promise 16; the tests of what brings an event look at it too. */
+final class EventTest {
+    public static void main(String[] args) {
+        timesBetweenTicks();
+        theLatestAreKept();
+        wrongInputs();
+        Check.end();
+    }
+
+    private static void timesBetweenTicks() {
+        CrossingUnit x = new CrossingUnit();
+        x.order(1);
+        x.ticks(3);
+        x.health(0, 2, false);
+        x.ticks(4);
+        x.health(0, 3, false);
+        Units.event(x, 0, 0, 8, 1);
+        Units.event(x, 1, 1, 3, 1);
+        Units.event(x, 2, 3, 1, 1);
+        Units.event(x, 3, 3, 1, 2);
+        Check.same("events", x.about(10), 4);
+    }
+
+    /** Two events of the same time and kind one behind the other are told apart by their track. */
+    private static void order(CrossingUnit x, int track) {
+        x.order(track);
+        x.cancel(track);
+    }
+
+    private static void theLatestAreKept() {
+        CrossingUnit x = new CrossingUnit();
+        for (int i = 0; i < 64; i++) {
+            order(x, i & 1);
+        }
+        Units.event(x, 0, 0, 8, 0);
+        Units.event(x, 63, 0, 8, 1);
+        Check.noSuch("the 64th", () -> x.event(64, 0));
+        x.health(1, 3, false);
+        Check.same("events in all", x.about(10), 65);
+        Check.noSuch("the first is not kept any more", () -> x.event(0, 0));
+        Check.noSuch("which goes ahead of what", () -> x.event(0, 3));
+        Units.event(x, 1, 0, 8, 1);
+        Units.event(x, 64, 0, 1, 5);
+        x.tick();
+        for (int i = 0; i < 99; i++) {
+            order(x, 0);
+        }
+        Check.same("events in all", x.about(10), 165);
+        Check.noSuch("100", () -> x.event(100, 1));
+        Units.event(x, 101, 1, 8, 0);
+        Units.event(x, 164, 1, 8, 0);
+        Check.noSuch("165", () -> x.event(165, 2));
+    }
+
+    private static void wrongInputs() {
+        CrossingUnit x = Units.shut(0);
+        String before = Units.all(x);
+        for (int i : new int[] {-1, 6, -64, Integer.MIN_VALUE, Integer.MAX_VALUE}) {
+            Check.noSuch("event " + i, () -> x.event(i, 0));
+            Check.noSuch("which goes ahead of what", () -> x.event(i, 3));
+        }
+        for (int what : new int[] {-1, 3, Integer.MIN_VALUE, Integer.MAX_VALUE}) {
+            Check.badArgument("what " + what, () -> x.event(0, what));
+        }
+        Check.same("nothing changed", Units.all(x), before);
+    }
+}
