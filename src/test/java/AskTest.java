@@ -3,6 +3,7 @@ final class AskTest {
     public static void main(String[] args) {
         someoneHasAsked();
         askedAnewCountsAnew();
+        askedAnewForgetsEachCount();
         disturbedOnceMoreLeavesIt();
         axlesAheadOfItDoNotCount();
         aKeptPulseCountsFromThenOn();
@@ -25,25 +26,47 @@ final class AskTest {
         Check.same("someone else asks anew", x.section(0, 1, 3), 1);
     }
 
-    private static void sweep(CrossingUnit x, int track, int section) {
-        Units.pulseAndTick(x, track, section, 1);
-        Units.pulseAndTick(x, track, section + 1, 1);
+    /** Through section 1 of track 0. */
+    private static void sweep(CrossingUnit x, int direction) {
+        Units.pulseAndTick(x, 0, direction == 1 ? 1 : 2, direction);
+        Units.pulseAndTick(x, 0, direction == 1 ? 2 : 1, direction);
+    }
+
+    private static void askedAnewCountsAnew(int who, int first, int second) {
+        CrossingUnit x = new CrossingUnit();
+        x.health(0, 1, false);
+        x.health(0, 1, true);
+        x.ask(0, 1, 4);
+        sweep(x, first);
+        Check.same("swept", x.section(0, 1, 2), 1);
+        x.ask(0, 1, who);
+        Check.same("not since " + who + " has asked", x.section(0, 1, 2), 0);
+        Check.no("so it is not reset", x.confirm(0, 1, 9));
+        sweep(x, second);
+        Check.same("swept anew", x.section(0, 1, 2), 1);
+        Check.yes("so it is reset", x.confirm(0, 1, 9));
     }
 
     private static void askedAnewCountsAnew() {
         for (int who = 4; who <= 5; who++) {
+            askedAnewCountsAnew(who, 1, 1);
+            askedAnewCountsAnew(who, 1, -1);
+            askedAnewCountsAnew(who, -1, 1);
+            askedAnewCountsAnew(who, -1, -1);
+        }
+    }
+
+    private static void askedAnewForgetsEachCount() {
+        int[][] pulses = {{1, 1}, {2, 1}, {2, -1}, {1, -1}};
+        for (int[] pulse : pulses) {
             CrossingUnit x = new CrossingUnit();
             x.health(0, 1, false);
             x.health(0, 1, true);
             x.ask(0, 1, 4);
-            sweep(x, 0, 1);
-            Check.same("swept", x.section(0, 1, 2), 1);
-            x.ask(0, 1, who);
-            Check.same("not since " + who + " has asked", x.section(0, 1, 2), 0);
-            Check.no("so it is not reset", x.confirm(0, 1, 9));
-            sweep(x, 0, 1);
-            Check.same("swept anew", x.section(0, 1, 2), 1);
-            Check.yes("so it is reset", x.confirm(0, 1, 9));
+            Units.pulseAndTick(x, 0, pulse[0], pulse[1]);
+            x.ask(0, 1, 4);
+            sweep(x, 1);
+            Check.same("forgot head " + pulse[0] + " by " + pulse[1], x.section(0, 1, 2), 1);
         }
     }
 

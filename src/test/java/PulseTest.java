@@ -101,7 +101,6 @@ final class PulseTest {
         Check.same("it counts", balances(x, 1), "0 0 1");
     }
 
-    /** Head 1 takes from section 0 ahead of head 0 giving to it would be the other order of events. */
     private static void tracksAndHeadsInOrder() {
         CrossingUnit x = new CrossingUnit();
         x.pulse(1, 1, 1);
@@ -129,6 +128,7 @@ final class PulseTest {
         Check.same("and its section is even", balances(back, 0), "0 1 0");
     }
 
+    /** More than 400 take 602 calls, and an object has 512: what is above 400 can't be tested. */
     private static void manyAxlesDoNotDisturb() {
         CrossingUnit x = new CrossingUnit();
         for (int i = 0; i < 165; i++) {
