@@ -53,7 +53,7 @@ final class Check {
         }
     }
 
-    private static void refused(String what, Call call, Class<?> due) {
+    static void refused(String what, Call call, Class<?> due) {
         try {
             call.run();
         } catch (RuntimeException e) {

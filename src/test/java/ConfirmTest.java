@@ -4,6 +4,8 @@ final class ConfirmTest {
         resets();
         sweepsThatAreOne();
         sweepsThatAreNone();
+        asManyOutAsIn();
+        anUnhealthyHeadSweepsNothing();
         bothHeadsHaveToBeHealthy();
         canBeDoneAgain();
         disturbedAnewNeedsAllAnew();
@@ -92,6 +94,42 @@ final class ConfirmTest {
         notSwept("back, and out above", 2, -1, 1, -1, 2, 1);
         notSwept("forward and back", 1, 1, 2, 1, 2, -1, 1, -1);
         notSwept("past the next sections", 0, 1, 3, 1);
+    }
+
+    private static void asManyOutAsIn(int in, int out, int direction) {
+        CrossingUnit x = asked(1, 1, 1);
+        for (int i = 0; i < in; i++) {
+            drive(x, 1, direction == 1 ? 1 : 2, direction);
+        }
+        for (int i = 0; i < out; i++) {
+            drive(x, 1, direction == 1 ? 2 : 1, direction);
+        }
+        String what = in + " in, " + out + " out, by " + direction;
+        boolean swept = in == out && in != 0;
+        Check.same(what, x.section(1, 1, 2), swept ? 1 : 0);
+        Check.same(what, x.confirm(1, 1, 2) ? 1 : 0, swept ? 1 : 0);
+        Check.same(what, x.section(1, 1, 0), swept ? 0 : 2);
+    }
+
+    private static void asManyOutAsIn() {
+        for (int in : new int[] {0, 1, 2, 40}) {
+            for (int out = Math.max(0, in - 1); out <= in + 1; out++) {
+                asManyOutAsIn(in, out, 1);
+                asManyOutAsIn(in, out, -1);
+            }
+        }
+    }
+
+    private static void anUnhealthyHeadSweepsNothing() {
+        CrossingUnit x = asked(0, 1, 1);
+        drive(x, 0, 1, 1);
+        x.health(0, 2, false);
+        drive(x, 0, 2, 1);
+        Check.same("the pulse is gone", x.section(0, 1, 2), 0);
+        x.health(0, 2, true);
+        Check.no("so it is not swept", x.confirm(0, 1, 2));
+        drive(x, 0, 2, 1);
+        Check.yes("till one counts", x.confirm(0, 1, 2));
     }
 
     private static void bothHeadsHaveToBeHealthy() {

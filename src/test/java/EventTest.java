@@ -3,6 +3,9 @@ final class EventTest {
     public static void main(String[] args) {
         timesBetweenTicks();
         theLatestAreKept();
+        oldestAndLatestAtEveryTotal();
+        allThatAreKept();
+        aTickFillsItUp();
         wrongInputs();
         Check.end();
     }
@@ -50,6 +53,58 @@ final class EventTest {
         Units.event(x, 101, 1, 8, 0);
         Units.event(x, 164, 1, 8, 0);
         Check.noSuch("165", () -> x.event(165, 2));
+    }
+
+    private static void oldestAndLatestAtEveryTotal() {
+        CrossingUnit x = new CrossingUnit();
+        for (int total = 1; total <= 130; total++) {
+            order(x, 0);
+            if (total == 1 || total == 63 || total == 64 || total == 65 || total == 66
+                    || total == 127 || total == 128 || total == 129) {
+                int oldest = Math.max(0, total - 64);
+                int all = total;
+                Check.same("in all", x.about(10), total);
+                Check.same("the oldest of " + total, x.event(oldest, 1), 8);
+                Check.same("the latest of " + total, x.event(total - 1, 1), 8);
+                Check.noSuch("ahead of the oldest of " + total, () -> x.event(oldest - 1, 1));
+                Check.noSuch("behind the latest of " + total, () -> x.event(all, 1));
+                Check.badArgument("what of the oldest", () -> x.event(oldest, 3));
+                Check.badArgument("what of the latest", () -> x.event(all - 1, -1));
+            }
+        }
+    }
+
+    /** An order that is cancelled ahead of its tick brings its own event alone. */
+    private static void allThatAreKept() {
+        CrossingUnit x = new CrossingUnit();
+        for (int i = 0; i < 100; i++) {
+            order(x, i % 3 & 1);
+            x.tick();
+        }
+        for (int i = 36; i < 100; i++) {
+            Units.event(x, i, i, 8, i % 3 & 1);
+        }
+        Check.noSuch("not kept", () -> x.event(35, 0));
+        Check.noSuch("not there yet", () -> x.event(100, 0));
+    }
+
+    private static void aTickFillsItUp() {
+        CrossingUnit x = new CrossingUnit();
+        for (int i = 0; i < 62; i++) {
+            order(x, 1);
+        }
+        x.pulse(0, 0, -1);
+        x.pulse(0, 3, 1);
+        x.pulse(1, 3, 1);
+        x.tick();
+        Check.same("in all", x.about(10), 66);
+        Check.noSuch("the second one", () -> x.event(1, 0));
+        Units.event(x, 2, 0, 8, 1);
+        Units.event(x, 61, 0, 8, 1);
+        Units.event(x, 62, 1, 1, 0);
+        Units.event(x, 63, 1, 1, 2);
+        Units.event(x, 64, 1, 1, 5);
+        Units.event(x, 65, 1, 3, 1);
     }
 
     private static void wrongInputs() {

@@ -5,6 +5,8 @@ final class HealthTest {
         disturbsBothSectionsAtOnce();
         healthyDisturbsNothing();
         toldOnceMore();
+        toldOnceMoreOfEveryHead();
+        disturbsWhatIsOccupied();
         wrongInputs();
         Check.end();
     }
@@ -63,6 +65,33 @@ final class HealthTest {
         Check.same("the section above becomes so", x.section(0, 2, 0), 2);
         Units.event(x, 3, 1, 1, 2);
         Check.same("alone", x.about(10), 4);
+    }
+
+    /** No section of an unhealthy head can be reset, so there is nothing else to see of it. */
+    private static void toldOnceMoreOfEveryHead() {
+        for (int track = 0; track < 2; track++) {
+            for (int head = 0; head < 4; head++) {
+                CrossingUnit x = new CrossingUnit();
+                Check.yes("told", x.health(track, head, false));
+                String sections = Units.sections(x);
+                Check.no("told once more", x.health(track, head, false));
+                Check.same("they are disturbed", Units.sections(x), sections);
+                x.tick();
+                Check.no("told at another time", x.health(track, head, false));
+                Check.same("they are disturbed still", Units.sections(x), sections);
+                Check.yes("healthy", x.health(track, head, true));
+                Check.yes("told anew", x.health(track, head, false));
+            }
+        }
+    }
+
+    private static void disturbsWhatIsOccupied() {
+        CrossingUnit x = new CrossingUnit();
+        Units.pulseAndTick(x, 1, 0, 1);
+        Units.pulseAndTick(x, 1, 0, 1);
+        x.health(1, 0, false);
+        Check.same("state", x.section(1, 0, 0), 2);
+        Check.same("its balance stays", x.section(1, 0, 1), 2);
     }
 
     private static void wrongInputs() {
