@@ -6,6 +6,9 @@ final class EventTest {
         oldestAndLatestAtEveryTotal();
         allThatAreKept();
         aTickFillsItUp();
+        ofOneTickByItsSteps();
+        ofOneTickByTracks();
+        whatBringsNone();
         wrongInputs();
         Check.end();
     }
@@ -105,6 +108,73 @@ final class EventTest {
         Units.event(x, 63, 1, 1, 2);
         Units.event(x, 64, 1, 1, 5);
         Units.event(x, 65, 1, 3, 1);
+    }
+
+    /**
+     * RAISING comes at 152, so that the motors that stand still since then give the alarms at 213;
+     * lamp 1 is lit from 210 to 214, so that its third dark tick is at 213 too.
+     */
+    private static void ofOneTickByItsSteps() {
+        CrossingUnit x = Units.shut(0);
+        x.ticks(6);
+        x.cancel(0);
+        x.ticks(30);
+        Check.same("raising", x.about(0), 5);
+        x.ticks(58);
+        x.current(1, false);
+        x.ticks(2);
+        int events = x.about(10);
+        x.order(0);
+        x.pulse(0, 1, 1);
+        x.tick();
+        Units.event(x, events, 212, 8, 0);
+        Units.event(x, events + 1, 213, 1, 0);
+        Units.event(x, events + 2, 213, 9, 0);
+        Units.event(x, events + 3, 213, 7, 1);
+        Units.event(x, events + 4, 213, 6, 0);
+        Units.event(x, events + 5, 213, 6, 1);
+        Units.event(x, events + 6, 213, 3, 3);
+        Check.same("events", x.about(10), events + 7);
+    }
+
+    private static void ofOneTickByTracks() {
+        for (int stops = 0; stops < 2; stops++) {
+            CrossingUnit x = Units.shut(stops);
+            x.cancel(stops);
+            x.order(1 - stops);
+            int events = x.about(10);
+            x.tick();
+            Units.event(x, events, 117, stops == 0 ? 5 : 4, 0);
+            Units.event(x, events + 1, 117, stops == 0 ? 4 : 5, 1);
+            Check.same("events", x.about(10), events + 2);
+        }
+    }
+
+    private static void whatBringsNone() {
+        CrossingUnit x = Units.shut(0);
+        x.health(1, 3, false);
+        int events = x.about(10);
+        x.health(1, 3, true);
+        x.pulse(0, 0, 1);
+        x.barrier(0, 50);
+        x.barrier(0, 0);
+        x.current(1, false);
+        x.current(1, true);
+        x.night(true);
+        x.ask(1, 2, 4);
+        Check.no("not swept", x.confirm(1, 2, 5));
+        Check.same("there is one", x.order(0), 1);
+        Check.same("disturbed", x.order(1), 2);
+        Check.no("there is none", x.cancel(1));
+        x.ticks(0);
+        Check.same("between ticks", x.about(10), events);
+        x.tick();
+        Check.same("a section is occupied", x.section(0, 0, 0), 1);
+        Check.same("a coming", x.earliest(0), 214);
+        x.ticks(20);
+        Check.same("in ticks", x.about(10), events);
+        x.cancel(0);
+        Check.same("an order goes", x.about(10), events);
     }
 
     private static void wrongInputs() {
